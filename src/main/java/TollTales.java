@@ -544,7 +544,7 @@ public final class TollTales {
         return FAULT_BASE - number;
     }
 
-    /** Why n cells from i on can't be read as a row of a sort, or TAKEN; in the order that river, least and cell share. */
+    /** Why n cells from i on can't be read as a row of a sort, or TAKEN; nothing is of no sort, so NULL and CAST never meet. */
     private int refusalOfCells(Sheet sheet, int sort, int i, int n) {
         if (!isSort(sort)) {
             return OUTSIDE;
@@ -864,13 +864,17 @@ public final class TollTales {
             row = 0;
             for (int bought = 0; bought < 1 << tales; bought++) {
                 if ((bought & known) == 0 && rowsOf(known | bought) != 0) {
-                    offer(costOf(bought, prices), firstRow(known | bought));
+                    offer(costOf(bought, prices), known | bought);
                 }
             }
         }
 
-        private void offer(int cost, int first) {
-            if (coin == NONE || cost < coin || cost == coin && first < row) {
+        private void offer(int cost, int set) {
+            if (coin != NONE && cost > coin) {
+                return;
+            }
+            int first = firstRow(set);
+            if (coin == NONE || cost < coin || first < row) {
                 coin = cost;
                 row = first;
             }

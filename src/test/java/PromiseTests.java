@@ -478,6 +478,8 @@ public final class PromiseTests {
         due("16 nobody", x.village(0, 0), 0);
         due("16 nobody's cover", x.village(0, 1), 0);
         x.traveller(1);
+        due("16 one", x.village(0, 0), 1);
+        due("16 one needs none", x.village(0, 1), 0);
         x.traveller(1);
         due("16 one tale for two", x.village(0, 0), 1);
         due("16 its cover", x.village(0, 1), 2);
@@ -788,6 +790,14 @@ public final class PromiseTests {
         due("30 the latest", x.fault(), 1);
         x.sheet(1, 0, 1);
         due("30 taken", x.fault(), 0);
+        x.as(0, 1);
+        x.put(1, 0, 0);
+        due("30 put", x.fault(), 0);
+        x.as(0, 1);
+        x.lose(1);
+        x.sheet(1, 0, 41);
+        due("30 sheet refused", x.fault(), 0);
+        x.sheet(1, 0, 1);
         x.put(1, 1, 0);
         due("30 again", x.fault(), 3);
         x.copy(9, 0, 0, 0, 0);
